@@ -1,0 +1,265 @@
+/** Promises 11 to 14: append, clearText, faultPosition, run. */
+public final class TextTest {
+    private static final String SHOT = "s0f100000b101000q90;";
+
+    public static void main(String[] args) {
+        append();
+        appendFull();
+        clearText();
+        noFault();
+        faultOfSigns();
+        faultOfNumbers();
+        faultOfEarlyEnds();
+        eachByteOfAShot();
+        runOrdinary();
+        runStopsAtAnError();
+        runWithoutErrors();
+        runIsOneRecord();
+        runWithAFault();
+        runSwaps();
+        theTextIsNoState();
+        Check.finish();
+    }
+
+    private static void append() {
+        TransitMeter x = new TransitMeter();
+        Check.due("append(32)", x.append(32), 1);
+        Check.due("append(126)", x.append(126), 2);
+        for (int wrong : new int[] {31, 127, 0, -1, 255, 256 + 's', Integer.MIN_VALUE, Integer.MAX_VALUE}) {
+            Check.due("append(" + wrong + ")", x.append(wrong), Check.BAD_VALUE);
+        }
+        Check.due("total(9)", x.total(9), 2);
+        Check.due("append is not recorded", x.total(8), 0);
+    }
+
+    private static void appendFull() {
+        TransitMeter x = new TransitMeter();
+        for (int i = 1; i <= 100; i++) {
+            Check.due("append, byte " + i, x.append(i % 2 == 1 ? 'c' : ';'), i);
+        }
+        Check.due("append, byte 101", x.append('c'), Check.FULL);
+        Check.due("append, a wrong byte 101", x.append(31), Check.BAD_VALUE);
+        Check.due("100 bytes without a fault", x.faultPosition(), Check.NONE);
+        x.addPath(100, 50, 1, 1000, 0);
+        Check.due("50 rounds", x.run(), 50);
+        Check.due("all lost", x.total(4), 50);
+        Check.due("clearText()", x.clearText(), 100);
+        Check.due("append after that", x.append('x'), 1);
+    }
+
+    private static void clearText() {
+        TransitMeter x = new TransitMeter();
+        Check.due("clearText() of none", x.clearText(), 0);
+        Check.type(x, "abc");
+        Check.due("clearText()", x.clearText(), 3);
+        Check.due("clearText() again", x.clearText(), 0);
+        Check.due("total(9)", x.total(9), 0);
+        Check.due("no fault in an empty text", x.faultPosition(), Check.NONE);
+        Check.due("clearText is not recorded", x.total(8), 0);
+        Check.type(x, "c");
+        Check.due("nothing is left of the old text", x.faultPosition(), 1);
+    }
+
+    private static void fault(String text, int due) {
+        TransitMeter x = new TransitMeter();
+        Check.type(x, text);
+        Check.due("faultPosition of \"" + text + "\"", x.faultPosition(), due);
+        Check.due("the length of \"" + text + "\"", x.total(9), text.length());
+    }
+
+    private static void noFault() {
+        for (String text : new String[] {"", "c;", "w;", "c;w;c;", SHOT, SHOT + "c;" + SHOT + "w;",
+                "s3f1000b9999999q0;", "s0f9999999b1000q100;", "s1f5000b5000q7;", "s2f1000b1000q10;"}) {
+            fault(text, Check.NONE);
+        }
+    }
+
+    private static void faultOfSigns() {
+        fault("x", 0);
+        fault(";", 0);
+        fault("C;", 0);
+        fault(" c;", 0);
+        fault("c ;", 1);
+        fault("c; ", 2);
+        fault("c;;", 2);
+        fault("cc;", 1);
+        fault("w0;", 1);
+        fault("c;w;x", 4);
+        fault("S0f5000b5000q7;", 0);
+        fault("s 0f5000b5000q7;", 1);
+        fault("s0 f5000b5000q7;", 2);
+        fault("s0F5000b5000q7;", 2);
+        fault("s0b5000f5000q7;", 2);
+        fault("s0f5000q7;", 7);
+        fault("s0f5000b5000;", 12);
+        fault("s0f5000b5000q7c;", 14);
+        fault("s0f5000b5000q7 ;", 14);
+        fault("s0f5000.b5000q7;", 7);
+    }
+
+    private static void faultOfNumbers() {
+        fault("sf5000b5000q7;", 1);
+        fault("s4f5000b5000q7;", 1);
+        fault("s10f5000b5000q7;", 1);
+        fault("s00f5000b5000q7;", 2);
+        fault("s01f5000b5000q7;", 2);
+        fault("s-1f5000b5000q7;", 1);
+        fault("s0f999b5000q7;", 3);
+        fault("s0f0b5000q7;", 3);
+        fault("s0f05000b5000q7;", 3);
+        fault("s0f-5000b5000q7;", 3);
+        fault("s0fb5000q7;", 3);
+        fault("s0f10000000b5000q7;", 10);
+        fault("s0f99999999b5000q7;", 10);
+        fault("s0f9999999b99999990q7;", 18);
+        fault("s0f5000b999q7;", 8);
+        fault("s0f5000b0q7;", 8);
+        fault("s0f5000b5000q101;", 13);
+        fault("s0f5000b5000q1000;", 13);
+        fault("s0f5000b5000q00;", 14);
+        fault("s0f5000b5000q07;", 14);
+        fault("s0f5000b5000q;", 13);
+        fault("s0f5000b5000q12345678;", 13);
+        fault("s12345678", 1);
+        fault("s3333333333", 1);
+        fault("s4!", 1);
+        fault("s0f999!", 3);
+        fault("s/", 1);
+        fault("s:", 1);
+    }
+
+    private static void faultOfEarlyEnds() {
+        fault("s", 1);
+        fault("s0", 2);
+        fault("s0f", 3);
+        fault("s0f1000", 7);
+        fault("s0f1000b", 8);
+        fault("s0f1000b1000", 12);
+        fault("s0f1000b1000q", 13);
+        fault("s0f1000b1000q5", 14);
+        fault("s0f1000b1000q100", 16);
+        fault("c", 1);
+        fault("c;w", 3);
+        fault(SHOT + "s", SHOT.length() + 1);
+        // the digits that stand there are out of the range, though more could follow
+        fault("s4", 1);
+        fault("s12", 1);
+        fault("s0f1", 3);
+        fault("s0f999", 3);
+        fault("s0f0", 3);
+        fault("s0f1000b99", 8);
+        fault("s0f1000b1000q101", 13);
+    }
+
+    /** A shot that is cut off, or goes on with a sign that fits nowhere, at each of its bytes. */
+    private static void eachByteOfAShot() {
+        String text = "s1f2345678b3456789q0;";
+        for (int i = 0; i < text.length(); i++) {
+            // cut after one to three digits, a time is below 1000, and so a fault at its first digit
+            int due = i >= 4 && i <= 6 ? 3 : i >= 12 && i <= 14 ? 11 : i;
+            fault(text.substring(0, i) + "~" + text.substring(i + 1), due);
+            fault(text.substring(0, i), i == 0 ? Check.NONE : due);
+        }
+    }
+
+    private static void runOrdinary() {
+        TransitMeter x = Check.withPaths(1, 1);
+        Check.type(x, "s0f100000b101000q90;s1f100000b100100q40;");
+        Check.due("run()", x.run(), 2);
+        Check.due("told(0, 0)", x.told(0, 0), 100000);
+        Check.due("told(0, 1)", x.told(0, 1), 101000);
+        Check.due("told(0, 2)", x.told(0, 2), 90);
+        Check.due("told(1, 1)", x.told(1, 1), 100100);
+        Check.due("told(1, 2)", x.told(1, 2), 40);
+        Check.due("the text stays", x.total(9), 40);
+        Check.type(x, "c;w;");
+        Check.due("run()", x.run(), 2);
+        Check.due("the round is closed", x.round(0, 0), 5449);
+        Check.due("swapped", x.total(6), 1);
+        Check.due("run() again", x.run(), 2);
+        Check.due("a lost round more", x.total(4), 1);
+        Check.due("swapped back", x.total(6), 0);
+    }
+
+    private static void runStopsAtAnError() {
+        TransitMeter none = new TransitMeter();
+        Check.type(none, "w;c;w;");
+        Check.due("run() without paths", none.run(), 1);
+        Check.due("the act ahead of the error stays", none.total(6), 1);
+        Check.due("it is recorded", none.total(8), 1);
+        TransitMeter x = new TransitMeter();
+        x.addPath(100, 50, 1, 1000, 500);
+        Check.type(x, "s0f1500b1500q90;s0f1499b1500q90;c;");
+        Check.due("run() with too early a time", x.run(), 1);
+        Check.due("the first shot stays", x.told(0, 0), 1500);
+        Check.due("no round is closed", x.total(3), 0);
+        Check.type(x, "c;s1f1500b1500q90;w;");
+        Check.due("run() with no such path", x.run(), 1);
+        Check.due("a round is closed", x.total(3), 1);
+        Check.due("not swapped", x.total(6), 0);
+        Check.type(x, "s3f1500b1500q90;c;");
+        Check.due("run() with an error at once", x.run(), 0);
+        Check.due("also recorded", x.total(8), 4);
+        Check.due("undo()", x.undo(), 3);
+        Check.due("nothing was different", x.total(3), 1);
+    }
+
+    private static void runWithoutErrors() {
+        TransitMeter x = Check.withPaths(1);
+        Check.type(x, "c;s0f101000b100000q90;c;c;");
+        Check.due("a lost round and one below 0 are no errors", x.run(), 4);
+        Check.due("closed", x.total(3), 3);
+        Check.due("lost", x.total(4), 2);
+        Check.due("velocity", x.round(1, 0), -9900);
+    }
+
+    private static void runIsOneRecord() {
+        TransitMeter x = Check.withPaths(1);
+        String before = Check.seen(x);
+        Check.type(x, SHOT + "c;" + "s0f100100b101000q90;c;w;");
+        Check.due("run()", x.run(), 5);
+        Check.due("one state more", x.total(8), 2);
+        String after = Check.seen(x);
+        Check.due("undo()", x.undo(), 1);
+        Check.holds("undone as one", before.equals(Check.seen(x)));
+        Check.due("run() again", x.run(), 5);
+        Check.holds("the same again", after.equals(Check.seen(x)));
+        x.clearText();
+        Check.due("run() of no acts", x.run(), 0);
+        Check.due("it is recorded too", x.total(8), 3);
+        Check.holds("and changes nothing", after.equals(Check.seen(x)));
+    }
+
+    private static void runWithAFault() {
+        TransitMeter x = Check.withPaths(1);
+        String before = Check.seen(x);
+        for (String text : new String[] {"w;x", "w;c", SHOT + "c;s0f999b1000q1;", "w;c;;"}) {
+            Check.type(x, text);
+            Check.due("run() of " + text, x.run(), Check.NOT_POSSIBLE);
+        }
+        Check.holds("nothing is carried out", before.equals(Check.seen(x)));
+        Check.due("nothing is recorded", x.total(8), 1);
+    }
+
+    private static void runSwaps() {
+        TransitMeter x = Check.withPaths(1);
+        Check.type(x, SHOT + "w;" + SHOT);
+        Check.due("run()", x.run(), 3);
+        Check.due("told after swapping", x.told(0, 0), 101000);
+        Check.type(x, "w;");
+        Check.due("run()", x.run(), 1);
+        Check.due("told and swapped back", x.told(0, 0), 100000);
+    }
+
+    private static void theTextIsNoState() {
+        TransitMeter x = Check.withPaths(1);
+        Check.type(x, "c;");
+        x.undo();
+        Check.due("the text after undo", x.total(9), 2);
+        x.save(0);
+        Check.type(x, "w;w;");
+        x.restore(0);
+        Check.due("the text after restore", x.total(9), 4);
+        Check.due("run() of it", x.run(), 2);
+    }
+}
