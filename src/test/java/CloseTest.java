@@ -98,6 +98,13 @@ public final class CloseTest {
             Check.due("outcome", x.path(0, 8), isTrue ? TransitMeter.GOOD : TransitMeter.CORRECTED);
             Check.due("reference", x.path(0, 5), isTrue ? 101000 : 100000);
         }
+        for (int weight : new int[] {599, 600}) {
+            TransitMeter x = Check.withReferences(weight, 1000 - weight);
+            Check.aim(x, 0, 101000, 100000);
+            Check.aim(x, 1, 100000, 100000);
+            x.close();
+            Check.due(weight + " of 1000 against 60", x.round(0, 5), weight == 600 ? 1 : 0);
+        }
         TransitMeter all = Check.withReferences(1, 1000);
         all.set(2, 100);
         Check.aim(all, 0, 107000, 100000);
@@ -205,6 +212,10 @@ public final class CloseTest {
         Check.due("accepted", x.round(0, 2), 3);
         Check.due("corrected", x.round(0, 3), 1);
         Check.due("substituted", x.round(0, 4), 0);
+        Check.aim(x, 0, 100000, 100000);
+        x.close();
+        Check.due("none is corrected in the next round", x.round(0, 3), 0);
+        Check.due("it stays in the one before", x.round(1, 3), 1);
     }
 
     private static void tooEarlyAfterCorrection() {
@@ -329,6 +340,14 @@ public final class CloseTest {
         Check.due("close()", x.close(), -25520);
         Check.due("a weak one is substituted", x.path(0, 9), -53664);
         Check.due("substituted", x.round(0, 4), 1);
+        x.close();
+        Check.due("none is substituted in a lost round", x.round(0, 4), 0);
+        Check.aim(x, 0, 100000, 101000);
+        Check.aim(x, 1, 120000, 100100);
+        Check.aim(x, 2, 100000, 101000);
+        x.close();
+        Check.due("none is substituted where all are accepted", x.round(0, 4), 0);
+        Check.due("accepted", x.round(0, 2), 7);
     }
 
     private static void ratios() {
@@ -388,6 +407,13 @@ public final class CloseTest {
         Check.aim(x, 1, 100000, 100000);
         x.close();
         Check.due("it stays with a mean of 0", x.path(0, 7), 2250);
+        TransitMeter slow = Check.withPaths(1);
+        slow.setPoint(0, 500);
+        // 1e8 / 90000300 = 1, and 1 * 500 / 1000 = 0
+        Check.aim(slow, 0, 300000, 300001);
+        Check.due("close() with a mean of 1", slow.close(), 0);
+        Check.due("the mean", slow.round(0, 1), 1);
+        Check.due("a ratio by the mean, not by the velocity", slow.path(0, 7), 1000);
     }
 
     private static void profileAndVolume() {
@@ -427,6 +453,14 @@ public final class CloseTest {
         Check.aim(x, 0, 100100, 100000);
         Check.due("close()", x.close(), -999);
         Check.due("-999 / 1000 is none either", x.volume(1), 0);
+        Check.aim(x, 0, 100000, 100101);
+        Check.due("close()", x.close(), 1008);
+        Check.due("the least forward volume", x.volume(0), 1);
+        Check.due("no backward volume", x.volume(1), 0);
+        Check.aim(x, 0, 100101, 100000);
+        Check.due("close()", x.close(), -1008);
+        Check.due("the least backward volume", x.volume(1), 1);
+        x = Check.withPaths(1);
         x.set(3, 1000000);
         x.set(4, 1000);
         x.setPoint(0, 1500);

@@ -63,8 +63,12 @@ public final class HistoryTest {
             }
             x.close();
         }
-        Check.aim(x, 1, 101000, 100500);
-        x.shot(0, 100000, 101000, 17);
+        x.set(2, 100);
+        Check.aim(x, 0, 109000, 101000);
+        Check.aim(x, 1, 101000, 100512);
+        Check.aim(x, 2, 100000, 100700);
+        Check.due("to be an outlier", x.wouldBecome(0), TransitMeter.OUTLIER);
+        Check.due("to be corrected", x.wouldBecome(1), TransitMeter.CORRECTED);
         return x;
     }
 

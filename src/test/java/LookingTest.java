@@ -11,6 +11,7 @@ public final class LookingTest {
         volume();
         statistic();
         statisticOfSome();
+        statisticOfNeighbours();
         trustByFailing();
         trustBySkips();
         trustByWeightAndNumber();
@@ -225,6 +226,20 @@ public final class LookingTest {
         x.close();
         Check.due("the least is dropped", x.statistic(1), 999);
         Check.due("average", x.statistic(3), 1497);
+    }
+
+    private static void statisticOfNeighbours() {
+        TransitMeter x = Check.withPaths(1);
+        int[] backward = {300003, 300002, 300004, 300002};
+        int[] velocities = {3, 2, 4, 2};
+        for (int i = 0; i < backward.length; i++) {
+            closeWith(x, 300000, backward[i]);
+            Check.due("velocity", x.round(0, 0), velocities[i]);
+        }
+        int[] due = {4, 2, 4, 2, 2};
+        for (int which = 0; which < due.length; which++) {
+            Check.due("statistic(" + which + ") of neighbours", x.statistic(which), due[which]);
+        }
     }
 
     private static void order(String what, TransitMeter x, int... due) {

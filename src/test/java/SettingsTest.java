@@ -58,6 +58,7 @@ public final class SettingsTest {
         Check.due("addPath, all greatest", new TransitMeter().addPath(2000, 2000, 1000, 10000, 5000), 0);
         Check.due("addPath, axial above length", new TransitMeter().addPath(100, 101, 1, 100, 0), Check.BAD_VALUE);
         Check.due("addPath, axial as length", new TransitMeter().addPath(100, 100, 1, 100, 0), 0);
+        Check.due("addPath, length 49", new TransitMeter().addPath(49, 10, 1, 100, 0), Check.BAD_VALUE);
         for (int argument = 0; argument < low.length; argument++) {
             int[] wrong = {low[argument] - 1, high[argument] + 1, Integer.MIN_VALUE, Integer.MAX_VALUE};
             for (int value : wrong) {
@@ -135,6 +136,8 @@ public final class SettingsTest {
         Check.due("setPoint, a wrong seventh", x.setPoint(50, 1501), Check.BAD_VALUE);
         Check.due("setPoint, in place of one of six", x.setPoint(300, 777), 6);
         Check.due("its factor", x.factor(300), 777);
+        Check.due("setPoint, in place of the lowest of six", x.setPoint(100, 1005), 6);
+        Check.due("setPoint, in place of the highest of six", x.setPoint(600, 1000), 6);
         for (int i = 0; i < 6; i++) {
             int velocity = (6 - i) * 100;
             Check.due("factor(" + velocity + ")", x.factor(velocity), velocity == 300 ? 777 : 1000 + i);

@@ -7,6 +7,7 @@ public final class TextTest {
         appendFull();
         clearText();
         noFault();
+        faultsOfOneMeter();
         faultOfSigns();
         faultOfNumbers();
         faultOfEarlyEnds();
@@ -72,6 +73,19 @@ public final class TextTest {
                 "s3f1000b9999999q0;", "s0f9999999b1000q100;", "s1f5000b5000q7;", "s2f1000b1000q10;"}) {
             fault(text, Check.NONE);
         }
+    }
+
+    private static void faultsOfOneMeter() {
+        TransitMeter x = new TransitMeter();
+        String[] texts = {"c;c;x", "c;", "x", "c;s", "", "w;w;w"};
+        int[] due = {4, Check.NONE, 0, 3, Check.NONE, 5};
+        for (int i = 0; i < texts.length; i++) {
+            Check.type(x, texts[i]);
+            Check.due("faultPosition of " + texts[i], x.faultPosition(), due[i]);
+            Check.due("faultPosition of " + texts[i] + ", again", x.faultPosition(), due[i]);
+        }
+        Check.due("append", x.append(';'), 6);
+        Check.due("faultPosition of the whole text", x.faultPosition(), Check.NONE);
     }
 
     private static void faultOfSigns() {
@@ -193,14 +207,16 @@ public final class TextTest {
         Check.due("run() with too early a time", x.run(), 1);
         Check.due("the first shot stays", x.told(0, 0), 1500);
         Check.due("no round is closed", x.total(3), 0);
+        Check.type(x, "s0f1500b1499q90;c;");
+        Check.due("run() with too early a backward time", x.run(), 0);
         Check.type(x, "c;s1f1500b1500q90;w;");
         Check.due("run() with no such path", x.run(), 1);
         Check.due("a round is closed", x.total(3), 1);
         Check.due("not swapped", x.total(6), 0);
         Check.type(x, "s3f1500b1500q90;c;");
         Check.due("run() with an error at once", x.run(), 0);
-        Check.due("also recorded", x.total(8), 4);
-        Check.due("undo()", x.undo(), 3);
+        Check.due("also recorded", x.total(8), 5);
+        Check.due("undo()", x.undo(), 4);
         Check.due("nothing was different", x.total(3), 1);
     }
 
