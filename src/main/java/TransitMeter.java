@@ -35,8 +35,8 @@ public final class TransitMeter {
     private final History history = new History();
     private final State[] slots = {new State(), new State()};
     private final boolean[] slotFilled = new boolean[SLOTS];
-    private final Text text = new Text();
-    private final ActReader reader = new ActReader(text);
+    private final ActReader reader = new ActReader();
+    private final Text text = reader.text;
     private final Judgement judgement = new Judgement();
 
     /** Creates a meter without paths and points, with the settings as at first. */
@@ -964,10 +964,10 @@ public final class TransitMeter {
         }
     }
 
-    /** Reads the acts of a text one after the other; with a fault it stays at the fault position. */
+    /** Reads the acts of its text one after the other; with a fault it stays at the fault position. */
     private static final class ActReader {
         private static final int MAX_DIGITS = 7;
-        final Text text;
+        final Text text = new Text();
         int position;
         boolean faulty;
         int act;
@@ -975,10 +975,6 @@ public final class TransitMeter {
         int forward;
         int backward;
         int quality;
-
-        ActReader(Text read) {
-            text = read;
-        }
 
         void begin() {
             position = 0;

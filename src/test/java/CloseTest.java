@@ -177,6 +177,12 @@ public final class CloseTest {
         Check.aim(x, 1, 102000, 101000);
         x.close();
         Check.due("the same both ways is two", x.round(0, 5), 2);
+        x.close();
+        Check.due("none without shots", x.round(0, 5), 0);
+        Check.due("two in the round before", x.round(1, 5), 2);
+        x.undo();
+        Check.due("two in the latest round again", x.round(0, 5), 2);
+        Check.due("one in the round before", x.round(1, 5), 1);
     }
 
     private static void mostSkips() {
@@ -435,6 +441,10 @@ public final class CloseTest {
         Check.due("backward volume", x.volume(1), 228461);
         Check.due("forward volume stays", x.volume(0), 228461);
         Check.due("both", x.volume(2), 0);
+        x.undo();
+        Check.due("undone backward volume", x.volume(1), 0);
+        Check.due("close() again", x.close(), -8910);
+        Check.due("backward volume again", x.volume(1), 228461);
         x.removePoint(9900);
         x.removePoint(20000);
         x.setPoint(0, 999);

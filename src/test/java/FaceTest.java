@@ -97,8 +97,8 @@ public final class FaceTest {
     private static void source(String whole) {
         String code = whole.replaceAll("(?s)/\\*.*?\\*/", "").replaceAll("//[^\n]*", "");
         for (String word : List.of("throw", "throws", "try", "catch", "finally", "synchronized", "assert", "import",
-                "package", "var", "System\\.out", "equals", "hashCode", "toString", "Object", "Thread", "while\\s*\\(true",
-                "volatile", "transient", "native", "strictfp", "default\\s*->", "instanceof")) {
+                "package", "var", "System\\.out", "equals", "hashCode", "toString", "Object", "Thread",
+                "while\\s*\\(true", "volatile", "transient", "native", "strictfp", "default\\s*->", "instanceof")) {
             Check.holds("without " + word, !java.util.regex.Pattern.compile("\\b" + word + "\\b").matcher(code).find());
         }
         Check.holds("without lambdas and method references", !code.contains("->") && !code.contains("::"));

@@ -115,6 +115,9 @@ public final class SettingsTest {
         Check.due("setPoint(500, 900)", x.setPoint(500, 900), 3);
         Check.due("setPoint(500, 901) in place", x.setPoint(500, 901), 3);
         Check.due("the new factor", x.factor(500), 901);
+        Check.due("setPoint(0, 501) in place of the lowest", x.setPoint(0, 501), 3);
+        Check.due("its new factor", x.factor(0), 501);
+        x.undo();
         Check.due("setPoint is recorded", x.total(8), 4);
         Check.due("the points", x.total(1), 3);
         Check.due("setPoint(-1, 1000)", x.setPoint(-1, 1000), Check.BAD_VALUE);
@@ -136,8 +139,12 @@ public final class SettingsTest {
         Check.due("setPoint, a wrong seventh", x.setPoint(50, 1501), Check.BAD_VALUE);
         Check.due("setPoint, in place of one of six", x.setPoint(300, 777), 6);
         Check.due("its factor", x.factor(300), 777);
-        Check.due("setPoint, in place of the lowest of six", x.setPoint(100, 1005), 6);
-        Check.due("setPoint, in place of the highest of six", x.setPoint(600, 1000), 6);
+        for (int velocity : new int[] {100, 600}) {
+            int factor = x.factor(velocity);
+            Check.due("setPoint, in place of an outer one", x.setPoint(velocity, 555), 6);
+            Check.due("its factor", x.factor(velocity), 555);
+            Check.due("setPoint, in place of it again", x.setPoint(velocity, factor), 6);
+        }
         for (int i = 0; i < 6; i++) {
             int velocity = (6 - i) * 100;
             Check.due("factor(" + velocity + ")", x.factor(velocity), velocity == 300 ? 777 : 1000 + i);
