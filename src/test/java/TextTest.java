@@ -77,13 +77,21 @@ public final class TextTest {
 
     private static void faultsOfOneMeter() {
         TransitMeter x = new TransitMeter();
-        String[] texts = {"c;c;x", "c;", "x", "c;s", "", "w;w;w"};
-        int[] due = {4, Check.NONE, 0, 3, Check.NONE, 5};
+        String[] texts = {"c;c;x", "c;", "c", "x", "c;s", "s1f5000b5000q7;", "s1f5000b5000q", "", "c".repeat(100),
+            "c;".repeat(49) + "cs", "c;".repeat(49) + ";s", "s0f5000b5000q7;".repeat(6) + "s0f5000b50", "w;w;w"};
+        int[] due = {4, Check.NONE, 1, 0, 3, Check.NONE, 13, Check.NONE, 1, 99, 98, 98, 5};
         for (int i = 0; i < texts.length; i++) {
             Check.type(x, texts[i]);
             Check.due("faultPosition of " + texts[i], x.faultPosition(), due[i]);
             Check.due("faultPosition of " + texts[i] + ", again", x.faultPosition(), due[i]);
         }
+        Check.type(x, "c;".repeat(48) + "c;w;");
+        Check.due("faultPosition of 100 bytes", x.faultPosition(), Check.NONE);
+        Check.type(x, "s0f5000b5000q7;".repeat(6) + "s0f5000b5!");
+        Check.due("faultPosition of 100 bytes that end with too small a time", x.faultPosition(), 98);
+        Check.type(x, "s0f5000b5000q7;".repeat(5) + "c;".repeat(5) + "s0f5000b5000q77");
+        Check.due("faultPosition of 100 bytes that end too early", x.faultPosition(), 100);
+        Check.type(x, "w;w;w");
         Check.due("append", x.append(';'), 6);
         Check.due("faultPosition of the whole text", x.faultPosition(), Check.NONE);
     }

@@ -71,6 +71,8 @@ public final class WhatIfTest {
         x.addPath(2000, 2000, 1, 100, 5000);
         // 2e12 / 280000
         Check.due("the longest", x.ideal(1, 300, 20000, true), 7147857);
+        // 2e12 / 280168 = 7138573.99
+        Check.due("nearly a whole number", x.ideal(1, 300, -19832, false), 7143573);
         x.addPath(51, 10, 1, 100, 0);
         // -999 * 10 / 51 = -195 (.9), rounded towards zero: 51e9 / 999805 and 51e9 / 1000195
         Check.due("a quotient below 0", x.ideal(2, 1000, -999, false), 51009);
