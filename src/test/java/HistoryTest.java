@@ -3,10 +3,19 @@ public final class HistoryTest {
     public static void main(String[] args) {
         undo();
         undoDropsTheOldest();
+        historyGoesRound();
         undoOfEachCall();
+        fullHistoryOfEachCall();
+        eachCallWithoutADifference();
         notRecorded();
         save();
+        slotsAtTheirBounds();
+        eachSlotEmptyAtFirst();
+        emptySlotStaysEmpty();
+        saveInPlace();
         restore();
+        restoreAtAFullHistory();
+        restoredHasNoOtherHistory();
         slotsAreCopies();
         slotsOutliveUndo();
         Check.finish();
@@ -47,6 +56,34 @@ public final class HistoryTest {
         x.setWeight(0, 51);
         Check.due("undo()", x.undo(), 1);
         Check.due("the weight", x.path(0, 2), 50);
+    }
+
+    /** More states than are kept, again and again, with some of them undone between. */
+    private static void historyGoesRound() {
+        TransitMeter x = Check.withPaths(1);
+        while (x.total(8) > 0) {
+            x.undo();
+        }
+        x.addPath(100, 50, 1, 1000, 0);
+        int weight = 1;
+        for (int turn = 0; turn < 7; turn++) {
+            for (int i = 0; i <= turn + 3; i++) {
+                weight++;
+                Check.due("setWeight", x.setWeight(0, weight), weight - 1);
+            }
+            Check.due("states", x.total(8), 5);
+            for (int undone = 1; undone <= 3; undone++) {
+                weight--;
+                Check.due("undo(), turn " + turn, x.undo(), 5 - undone);
+                Check.due("the weight, turn " + turn, x.path(0, 2), weight);
+            }
+        }
+        for (int left = 1; left >= 0; left--) {
+            weight--;
+            Check.due("undo()", x.undo(), left);
+            Check.due("the weight", x.path(0, 2), weight);
+        }
+        Check.due("no more", x.undo(), Check.NOT_POSSIBLE);
     }
 
     /** A meter with all that a state can hold. */
@@ -110,6 +147,58 @@ public final class HistoryTest {
         }
     }
 
+    /** Each recorded call drops the oldest of five states, and no other one. */
+    private static void fullHistoryOfEachCall() {
+        for (int call = 0; call <= 9; call++) {
+            TransitMeter x = rich();
+            x.save(1);
+            String[] before = new String[6];
+            for (int i = 0; i < 6; i++) {
+                before[i] = Check.seen(x);
+                if (i < 5) {
+                    x.setWeight(2, 200 + i);
+                }
+            }
+            Check.due("five states", x.total(8), 5);
+            Check.holds("change " + call + " is no error", change(x, call) > -1000000);
+            Check.due("five states after change " + call, x.total(8), 5);
+            for (int i = 5; i >= 1; i--) {
+                Check.due("undo() after change " + call, x.undo(), i - 1);
+                Check.holds("state " + i + " after change " + call, before[i].equals(Check.seen(x)));
+            }
+            Check.due("the oldest is dropped by change " + call, x.undo(), Check.NOT_POSSIBLE);
+        }
+    }
+
+    /** Recorded also if nothing becomes different. */
+    private static void eachCallWithoutADifference() {
+        TransitMeter x = new TransitMeter();
+        Check.due("set to what it is", x.set(0, 40), 40);
+        Check.due("recorded", x.total(8), 1);
+        Check.due("run() of no acts", x.run(), 0);
+        Check.due("recorded", x.total(8), 2);
+        x.addPath(100, 50, 1, 1000, 0);
+        Check.due("setWeight to what it is", x.setWeight(0, 1), 1);
+        Check.due("recorded", x.total(8), 4);
+        Check.due("forget of none", x.forget(0), 0);
+        Check.due("recorded", x.total(8), 5);
+        x.undo();
+        x.undo();
+        x.setPoint(7, 900);
+        Check.due("setPoint to what it is", x.setPoint(7, 900), 1);
+        Check.due("recorded", x.total(8), 5);
+        x.undo();
+        x.undo();
+        x.shot(0, 5000, 6000, 7);
+        Check.due("shot as it is", x.shot(0, 5000, 6000, 7), 1);
+        Check.due("recorded", x.total(8), 5);
+        x.undo();
+        x.save(0);
+        Check.due("restore of what is", x.restore(0), 0);
+        Check.due("recorded", x.total(8), 5);
+        Check.due("undo()", x.undo(), 4);
+    }
+
     private static void notRecorded() {
         TransitMeter x = Check.withReferences(1, 2);
         int states = x.total(8);
@@ -147,6 +236,60 @@ public final class HistoryTest {
         Check.due("a path", x.total(0), 1);
     }
 
+    private static void slotsAtTheirBounds() {
+        TransitMeter x = Check.withPaths(1);
+        Check.due("save(-1)", x.save(-1), Check.BAD_INDEX);
+        Check.due("save(0)", x.save(0), 0);
+        Check.due("save(1)", x.save(1), 0);
+        Check.due("save(2)", x.save(2), Check.BAD_INDEX);
+        Check.due("restore(-1)", x.restore(-1), Check.BAD_INDEX);
+        Check.due("restore(0)", x.restore(0), 0);
+        Check.due("restore(1)", x.restore(1), 0);
+        Check.due("restore(2)", x.restore(2), Check.BAD_INDEX);
+    }
+
+    private static void eachSlotEmptyAtFirst() {
+        for (int slot = 0; slot <= 1; slot++) {
+            TransitMeter x = Check.withPaths(1);
+            Check.due("restore(" + slot + ") at first", x.restore(slot), Check.NOT_POSSIBLE);
+            x.save(1 - slot);
+            Check.due("restore(" + slot + ") with the other filled", x.restore(slot), Check.NOT_POSSIBLE);
+            Check.due("restore of the other", x.restore(1 - slot), 0);
+            Check.due("restore(" + slot + ") after that", x.restore(slot), Check.NOT_POSSIBLE);
+            Check.due("states", x.total(8), 2);
+            x.save(slot);
+            Check.due("restore(" + slot + ") when filled", x.restore(slot), 0);
+        }
+    }
+
+    /** Slots are no part of a state: undo neither fills nor empties one. */
+    private static void emptySlotStaysEmpty() {
+        TransitMeter x = Check.withPaths(1);
+        x.save(0);
+        x.undo();
+        Check.due("the slot stays filled", x.restore(0), 0);
+        x.save(1);
+        x.undo();
+        Check.due("and the other one", x.restore(1), 0);
+        TransitMeter y = Check.withPaths(1);
+        Check.due("a refused save", y.save(2), Check.BAD_INDEX);
+        Check.due("fills none", y.restore(0), Check.NOT_POSSIBLE);
+        Check.due("fills none", y.restore(1), Check.NOT_POSSIBLE);
+    }
+
+    private static void saveInPlace() {
+        for (int slot = 0; slot <= 1; slot++) {
+            TransitMeter x = Check.withPaths(1);
+            for (int closed = 0; closed < 3; closed++) {
+                Check.due("save(" + slot + ")", x.save(slot), closed);
+                x.close();
+            }
+            Check.due("restore(" + slot + ")", x.restore(slot), 2);
+            Check.due("total(3)", x.total(3), 2);
+            Check.due("restore(" + slot + ") again", x.restore(slot), 2);
+        }
+    }
+
     private static void restore() {
         TransitMeter x = rich();
         String saved = Check.seen(x);
@@ -163,6 +306,38 @@ public final class HistoryTest {
         Check.holds("the restore is undone", changed.equals(Check.seen(x)));
         Check.due("restore(0) once more", x.restore(0), 13);
         Check.holds("the slot still holds it", saved.equals(Check.seen(x)));
+    }
+
+    private static void restoreAtAFullHistory() {
+        TransitMeter x = Check.withPaths(1);
+        x.save(0);
+        for (int weight = 2; weight <= 7; weight++) {
+            x.setWeight(0, weight);
+        }
+        Check.due("restore(0)", x.restore(0), 0);
+        Check.due("the weight of the slot", x.path(0, 2), 1);
+        Check.due("five states", x.total(8), 5);
+        for (int left = 4; left >= 0; left--) {
+            Check.due("undo()", x.undo(), left);
+            Check.due("the weight", x.path(0, 2), left + 3);
+        }
+        Check.due("the oldest is dropped", x.undo(), Check.NOT_POSSIBLE);
+    }
+
+    /** The history and the text that were there at saving do not come back. */
+    private static void restoredHasNoOtherHistory() {
+        TransitMeter x = Check.withPaths(1, 1, 1);
+        Check.type(x, "abc");
+        x.save(0);
+        x.undo();
+        x.undo();
+        x.clearText();
+        Check.due("restore(0)", x.restore(0), 0);
+        Check.due("two states, not four", x.total(8), 2);
+        Check.due("no text", x.total(9), 0);
+        Check.due("three paths", x.total(0), 3);
+        Check.due("undo()", x.undo(), 1);
+        Check.due("one path", x.total(0), 1);
     }
 
     private static void slotsAreCopies() {

@@ -2,11 +2,21 @@
 public final class MeasuringTest {
     public static void main(String[] args) {
         shotOrdinary();
+        shotInPlace();
+        shotsOfAllPaths();
         shotRanges();
         shotAndDelay();
+        eachDelay();
+        goneAfterClosing();
         swapped();
+        swapWithoutPaths();
         swapsWhatIsKept();
+        swapsOneWithoutTheOther();
+        swapsBackWhatWasTold();
+        ratiosStayWhenSwapped();
         forget();
+        forgetWithoutARatio();
+        forgetAheadOfClosing();
         Check.finish();
     }
 
@@ -27,6 +37,29 @@ public final class MeasuringTest {
         x.undo();
         Check.due("undone shot", x.told(0, 2), Check.NONE);
         Check.due("one shot is left", x.total(2), 1);
+    }
+
+    private static void shotInPlace() {
+        TransitMeter x = Check.withPaths(1);
+        Check.due("the first", x.shot(0, 5000, 6000, 70), 1);
+        Check.due("in place", x.shot(0, 7000, 8000, 20), 1);
+        Check.due("told(0, 0)", x.told(0, 0), 7000);
+        Check.due("told(0, 1)", x.told(0, 1), 8000);
+        Check.due("told(0, 2)", x.told(0, 2), 20);
+        Check.due("the latest counts", x.wouldBecome(0), TransitMeter.WEAK);
+        Check.due("each is recorded", x.total(8), 3);
+    }
+
+    private static void shotsOfAllPaths() {
+        TransitMeter x = Check.withPaths(1, 1, 1, 1);
+        for (int path = 0; path < 4; path++) {
+            Check.due("shot of " + path, x.shot(path, 5000 + path, 6000, 50), path + 1);
+        }
+        for (int path = 0; path < 4; path++) {
+            Check.due("shot of " + path + " in place", x.shot(path, 5100 + path, 6000, 50), 4);
+            Check.due("told of " + path, x.told(path, 0), 5100 + path);
+        }
+        Check.due("a fifth path", x.shot(4, 5000, 6000, 50), Check.BAD_INDEX);
     }
 
     private static void shotRanges() {
@@ -61,6 +94,31 @@ public final class MeasuringTest {
         Check.due("swapped, backward 5999", x.shot(0, 6000, 5999, 50), Check.BAD_VALUE);
     }
 
+    private static void eachDelay() {
+        for (int delay : new int[] {0, 1, 2, 999, 1000, 4999, 5000}) {
+            TransitMeter x = new TransitMeter();
+            x.addPath(100, 50, 1, 1000, delay);
+            int least = 1000 + delay;
+            Check.due("forward, delay " + delay, x.shot(0, least - 1, 9000, 50), Check.BAD_VALUE);
+            Check.due("backward, delay " + delay, x.shot(0, 9000, least - 1, 50), Check.BAD_VALUE);
+            Check.due("none is told", x.told(0, 0), Check.NONE);
+            Check.due("the least of both, delay " + delay, x.shot(0, least, least, 50), 1);
+            Check.due("velocity", x.close(), 0);
+            Check.due("reference", x.path(0, 5), least);
+        }
+    }
+
+    private static void goneAfterClosing() {
+        TransitMeter x = Check.withPaths(1, 1);
+        Check.aim(x, 0, 5000, 6000);
+        x.shot(1, 5000, 6000, 3);
+        x.close();
+        Check.due("no shot of 0", x.told(0, 0), Check.NONE);
+        Check.due("no shot of the weak one", x.told(1, 2), Check.NONE);
+        Check.due("total(2)", x.total(2), 0);
+        Check.due("the first of the next round", x.shot(1, 7000, 8000, 50), 1);
+    }
+
     private static void swapped() {
         TransitMeter x = Check.withPaths(1);
         Check.due("swap()", x.swap(), 1);
@@ -77,6 +135,19 @@ public final class MeasuringTest {
         Check.due("taken as told", x.told(0, 0), 100000);
         Check.due("close() while not swapped", x.close(), 9900);
         Check.due("swap is recorded", x.total(8), 5);
+    }
+
+    private static void swapWithoutPaths() {
+        TransitMeter x = new TransitMeter();
+        Check.due("total(6)", x.total(6), 0);
+        Check.due("swap()", x.swap(), 1);
+        Check.due("swap() back", x.swap(), 0);
+        Check.due("swap() again", x.swap(), 1);
+        Check.due("each is recorded", x.total(8), 3);
+        Check.due("undo()", x.undo(), 2);
+        Check.due("total(6)", x.total(6), 0);
+        Check.due("undo()", x.undo(), 1);
+        Check.due("total(6)", x.total(6), 1);
     }
 
     private static void swapsWhatIsKept() {
@@ -105,6 +176,55 @@ public final class MeasuringTest {
         Check.due("undone swap back, told", x.told(0, 0), 101006);
     }
 
+    /** A path with reference times but no shot, one with a shot but no reference times, and one with neither. */
+    private static void swapsOneWithoutTheOther() {
+        TransitMeter x = Check.withPaths(1, 1, 1);
+        Check.aim(x, 0, 100000, 101000);
+        x.close();
+        Check.aim(x, 1, 102000, 103000);
+        x.swap();
+        Check.due("reference of 0", x.path(0, 5), 101000);
+        Check.due("backward", x.path(0, 6), 100000);
+        Check.due("no shot of 0", x.told(0, 0), Check.NONE);
+        Check.due("no reference of 1", x.path(1, 5), Check.NONE);
+        Check.due("shot of 1", x.told(1, 0), 103000);
+        Check.due("backward", x.told(1, 1), 102000);
+        Check.due("no reference of 2", x.path(2, 6), Check.NONE);
+        Check.due("no shot of 2", x.told(2, 1), Check.NONE);
+        Check.due("total(2)", x.total(2), 1);
+    }
+
+    private static void swapsBackWhatWasTold() {
+        TransitMeter x = Check.withPaths(1);
+        x.swap();
+        Check.aim(x, 0, 100000, 101000);
+        Check.due("told while swapped", x.told(0, 0), 101000);
+        x.swap();
+        Check.due("swapped back", x.told(0, 0), 100000);
+        Check.due("backward", x.told(0, 1), 101000);
+        Check.due("quality", x.told(0, 2), 90);
+        Check.due("close()", x.close(), 9900);
+        x.swap();
+        Check.due("reference", x.path(0, 5), 101000);
+        x.swap();
+        Check.due("reference, swapped back", x.path(0, 5), 100000);
+    }
+
+    private static void ratiosStayWhenSwapped() {
+        TransitMeter x = Check.withPaths(1, 1);
+        Check.aim(x, 0, 100100, 100000);
+        Check.aim(x, 1, 100000, 101000);
+        x.close();
+        for (int swaps = 1; swaps <= 2; swaps++) {
+            x.swap();
+            // -999 and 9900, the mean 4450
+            Check.due("ratio of 0", x.path(0, 7), -224);
+            Check.due("ratio of 1", x.path(1, 7), 2224);
+            Check.due("velocity of 0 in the latest round", x.path(0, 9), -999);
+            Check.due("velocity of that round", x.round(0, 0), 4450);
+        }
+    }
+
     private static void forget() {
         TransitMeter x = Check.withPaths(1, 1);
         Check.due("forget(0) without", x.forget(0), 0);
@@ -131,5 +251,32 @@ public final class MeasuringTest {
         x.undo();
         Check.due("undone forget", x.path(0, 5), 100000);
         Check.due("undone forget, ratio", x.path(0, 7), 1000);
+    }
+
+    /** A mean of 0 gives reference times, but no ratio. */
+    private static void forgetWithoutARatio() {
+        TransitMeter x = Check.withReferences(1);
+        Check.due("no ratio", x.path(0, 7), Check.NONE);
+        Check.due("forget(0)", x.forget(0), 1);
+        Check.due("forget(0) again", x.forget(0), 0);
+        Check.due("no ratio", x.path(0, 7), Check.NONE);
+    }
+
+    /** Without reference times a path has no shift, and without a ratio it is not substituted. */
+    private static void forgetAheadOfClosing() {
+        TransitMeter x = Check.withPaths(1, 9);
+        Check.aim(x, 0, 100000, 101000);
+        Check.aim(x, 1, 100000, 101000);
+        x.close();
+        Check.aim(x, 0, 104000, 101000);
+        Check.aim(x, 1, 100000, 101000);
+        Check.due("an outlier", x.wouldBecome(0), TransitMeter.OUTLIER);
+        x.forget(0);
+        Check.due("good without reference times", x.wouldBecome(0), TransitMeter.GOOD);
+        x.shot(0, 100000, 101000, 0);
+        x.close();
+        Check.due("not substituted", x.round(0, 4), 0);
+        Check.due("no velocity", x.path(0, 9), Check.NONE);
+        Check.due("no reference", x.path(0, 5), Check.NONE);
     }
 }

@@ -4,18 +4,34 @@ public final class TextTest {
 
     public static void main(String[] args) {
         append();
+        appendEachByte();
         appendFull();
+        fullWhateverElseIsDone();
         clearText();
         noFault();
+        noActs();
+        pathsAtTheirBounds();
+        timesAtTheirBounds();
+        qualitiesAtTheirBounds();
+        sevenDigitsAtMost();
+        zeroAlone();
+        noNumber();
+        noBlanks();
+        outOfRangeWhateverFollows();
+        semicolonAtEachEnd();
         faultsOfOneMeter();
         faultOfSigns();
         faultOfNumbers();
         faultOfEarlyEnds();
         eachByteOfAShot();
         runOrdinary();
+        runWithoutActs();
+        runOfFiftyActs();
         runStopsAtAnError();
+        runStopsAtEachError();
         runWithoutErrors();
         runIsOneRecord();
+        runAtAFullHistory();
         runWithAFault();
         runSwaps();
         theTextIsNoState();
@@ -33,6 +49,15 @@ public final class TextTest {
         Check.due("append is not recorded", x.total(8), 0);
     }
 
+    private static void appendEachByte() {
+        TransitMeter x = new TransitMeter();
+        for (int b = -300; b <= 600; b++) {
+            boolean fits = b >= 32 && b <= 126;
+            Check.due("append(" + b + ")", x.append(b), fits ? b - 31 : Check.BAD_VALUE);
+        }
+        Check.due("total(9)", x.total(9), 95);
+    }
+
     private static void appendFull() {
         TransitMeter x = new TransitMeter();
         for (int i = 1; i <= 100; i++) {
@@ -46,6 +71,23 @@ public final class TextTest {
         Check.due("all lost", x.total(4), 50);
         Check.due("clearText()", x.clearText(), 100);
         Check.due("append after that", x.append('x'), 1);
+    }
+
+    private static void fullWhateverElseIsDone() {
+        TransitMeter x = Check.withPaths(1);
+        Check.type(x, "c;".repeat(49) + "w");
+        Check.due("append, the 100th", x.append(';'), 100);
+        x.run();
+        Check.due("full after run()", x.append('c'), Check.FULL);
+        x.undo();
+        Check.due("full after undo()", x.append('c'), Check.FULL);
+        x.save(0);
+        x.restore(0);
+        Check.due("full after restore(0)", x.append('c'), Check.FULL);
+        Check.due("total(9)", x.total(9), 100);
+        Check.due("faultPosition()", x.faultPosition(), Check.NONE);
+        Check.due("clearText()", x.clearText(), 100);
+        Check.due("append after that", x.append('c'), 1);
     }
 
     private static void clearText() {
@@ -73,6 +115,106 @@ public final class TextTest {
                 "s3f1000b9999999q0;", "s0f9999999b1000q100;", "s1f5000b5000q7;", "s2f1000b1000q10;"}) {
             fault(text, Check.NONE);
         }
+    }
+
+    private static void noActs() {
+        fault("", Check.NONE);
+        TransitMeter x = new TransitMeter();
+        Check.due("faultPosition() ahead of all", x.faultPosition(), Check.NONE);
+        Check.type(x, "xyz");
+        Check.due("faultPosition()", x.faultPosition(), 0);
+        x.clearText();
+        Check.due("faultPosition() of the emptied text", x.faultPosition(), Check.NONE);
+    }
+
+    private static void pathsAtTheirBounds() {
+        for (int path = 0; path <= 9; path++) {
+            fault("s" + path + "f5000b5000q7;", path <= 3 ? Check.NONE : 1);
+        }
+        fault("s/f5000b5000q7;", 1);
+        fault("s:f5000b5000q7;", 1);
+    }
+
+    private static void timesAtTheirBounds() {
+        String[] times = {"0", "1", "999", "1000", "1001", "9999998", "9999999"};
+        boolean[] fits = {false, false, false, true, true, true, true};
+        for (int i = 0; i < times.length; i++) {
+            fault("s0f" + times[i] + "b5000q7;", fits[i] ? Check.NONE : 3);
+            fault("s0f5000b" + times[i] + "q7;", fits[i] ? Check.NONE : 8);
+        }
+    }
+
+    private static void qualitiesAtTheirBounds() {
+        for (int quality : new int[] {0, 1, 9, 10, 99, 100, 101, 102, 110, 200, 999, 1000, 9999999}) {
+            fault("s0f5000b5000q" + quality + ";", quality <= 100 ? Check.NONE : 13);
+        }
+    }
+
+    /** The eighth digit is no part of the number; a number of seven that is in range is none of eight. */
+    private static void sevenDigitsAtMost() {
+        fault("s0f1234567b5000q7;", Check.NONE);
+        fault("s0f12345678b5000q7;", 10);
+        fault("s0f5000b1234567q7;", Check.NONE);
+        fault("s0f5000b12345678q7;", 15);
+        fault("s0f10000000b5000q7;", 10);
+        fault("s0f5000b5000q10000000;", 13);
+        fault("s00000000f5000b5000q7;", 2);
+    }
+
+    private static void zeroAlone() {
+        fault("s0f5000b5000q0;", Check.NONE);
+        fault("s00f5000b5000q0;", 2);
+        fault("s03f5000b5000q0;", 2);
+        fault("s0f05000b5000q0;", 3);
+        fault("s0f5000b05000q0;", 8);
+        fault("s0f5000b5000q00;", 14);
+        fault("s0f5000b5000q01;", 14);
+        fault("s0f5000b5000q0100;", 14);
+    }
+
+    private static void noNumber() {
+        fault("sf5000b5000q7;", 1);
+        fault("s0fb5000q7;", 3);
+        fault("s0f5000bq7;", 8);
+        fault("s0f5000b5000q;", 13);
+        fault("s;", 1);
+    }
+
+    private static void noBlanks() {
+        String text = "s1f5000b6000q70;c;w;";
+        // a blank in a number leaves too small a time, a fault at its first digit, or a quality without a semicolon
+        int[] due = {0, 1, 2, 3, 3, 3, 3, 7, 8, 8, 8, 8, 12, 13, 14, 15, 16, 17, 18, 19, 20};
+        fault(text, Check.NONE);
+        for (int i = 0; i <= text.length(); i++) {
+            fault(text.substring(0, i) + " " + text.substring(i), due[i]);
+        }
+    }
+
+    private static void outOfRangeWhateverFollows() {
+        for (String after : new String[] {"", ";", "f", "x", " ", "f5000b5000q7;", "f5000b5000q7;x"}) {
+            fault("s4" + after, 1);
+            fault("s10" + after, 1);
+            fault("s9999999" + after, 1);
+            fault("s99999999" + after, 1);
+            fault("c;w;s0f999" + after, 7);
+            fault("s0f0" + after, 3);
+            fault("s0f5000b999" + after, 8);
+            fault("s0f5000b5000q101" + after, 13);
+            fault("s0f5000b5000q1000000" + after, 13);
+        }
+    }
+
+    private static void semicolonAtEachEnd() {
+        fault("c", 1);
+        fault("w", 1);
+        fault("s0f5000b5000q7", 14);
+        fault("c;w", 3);
+        fault("cw;", 1);
+        fault("c:", 1);
+        fault("s0f5000b5000q7,", 14);
+        fault("s0f5000b5000q100", 16);
+        fault("s0f5000b5000q0", 14);
+        fault("c;;w;", 2);
     }
 
     private static void faultsOfOneMeter() {
@@ -203,6 +345,53 @@ public final class TextTest {
         Check.due("swapped back", x.total(6), 0);
     }
 
+    private static void runWithoutActs() {
+        TransitMeter x = new TransitMeter();
+        Check.due("run() of an empty text", x.run(), 0);
+        Check.due("it is recorded", x.total(8), 1);
+        Check.due("undo()", x.undo(), 0);
+        Check.due("no paths and no acts", x.total(3), 0);
+    }
+
+    private static void runOfFiftyActs() {
+        TransitMeter x = Check.withPaths(1);
+        Check.type(x, "w;c;".repeat(25));
+        Check.due("total(9)", x.total(9), 100);
+        Check.due("run()", x.run(), 50);
+        Check.due("closed", x.total(3), 25);
+        Check.due("swapped", x.total(6), 1);
+        Check.due("kept", x.total(5), 12);
+        Check.due("one state more", x.total(8), 2);
+        TransitMeter none = new TransitMeter();
+        Check.type(none, "w;".repeat(49) + "c;");
+        Check.due("run() with an error of the last act", none.run(), 49);
+    }
+
+    /** The act that reports an error changes nothing, those ahead of it stay, and those after it are not done. */
+    private static void runStopsAtEachError() {
+        TransitMeter x = new TransitMeter();
+        x.addPath(100, 50, 1, 1000, 500);
+        x.addPath(100, 50, 1, 1000, 0);
+        String[] wrong = {"s0f1499b5000q7;", "s0f5000b1499q7;", "s0f1000b1000q7;", "s2f5000b5000q7;", "s3f5000b5000q7;"};
+        for (String act : wrong) {
+            Check.type(x, "w;s1f6000b7000q50;" + act + "w;c;");
+            Check.due("faultPosition() with " + act, x.faultPosition(), Check.NONE);
+            Check.due("run() with " + act, x.run(), 2);
+            Check.due("swapped once", x.total(6), 1);
+            Check.due("the shot ahead of it", x.told(1, 0), 7000);
+            Check.due("no shot of 0", x.told(0, 0), Check.NONE);
+            Check.due("not closed", x.total(3), 0);
+            Check.due("recorded as one", x.total(8), 3);
+            Check.due("undo()", x.undo(), 2);
+            Check.due("not swapped", x.total(6), 0);
+        }
+        TransitMeter none = new TransitMeter();
+        Check.type(none, "c;w;");
+        Check.due("run() without paths", none.run(), 0);
+        Check.due("not swapped", none.total(6), 0);
+        Check.due("it is recorded", none.total(8), 1);
+    }
+
     private static void runStopsAtAnError() {
         TransitMeter none = new TransitMeter();
         Check.type(none, "w;c;w;");
@@ -252,6 +441,24 @@ public final class TextTest {
         Check.due("run() of no acts", x.run(), 0);
         Check.due("it is recorded too", x.total(8), 3);
         Check.holds("and changes nothing", after.equals(Check.seen(x)));
+    }
+
+    private static void runAtAFullHistory() {
+        TransitMeter x = Check.withPaths(1);
+        for (int weight = 2; weight <= 6; weight++) {
+            x.setWeight(0, weight);
+        }
+        Check.type(x, "w;c;".repeat(25));
+        Check.due("run()", x.run(), 50);
+        Check.due("five states", x.total(8), 5);
+        Check.due("undo()", x.undo(), 4);
+        Check.due("no round", x.total(3), 0);
+        Check.due("the weight", x.path(0, 2), 6);
+        for (int left = 3; left >= 0; left--) {
+            Check.due("undo()", x.undo(), left);
+            Check.due("the weight", x.path(0, 2), left + 2);
+        }
+        Check.due("only the oldest was dropped", x.undo(), Check.NOT_POSSIBLE);
     }
 
     private static void runWithAFault() {

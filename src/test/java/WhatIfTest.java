@@ -1,14 +1,25 @@
+import java.util.Arrays;
+
 /** Promises 27 to 31: velocity, ideal, wouldBe, wouldBecome, skipsNeeded. */
 public final class WhatIfTest {
     public static void main(String[] args) {
         velocity();
+        velocityLimits();
         velocityErrors();
+        velocityTimesAtTheirBounds();
         ideal();
+        idealAtItsBounds();
         idealErrors();
         wouldBe();
+        wouldBeWithoutPaths();
+        wouldBeLost();
+        wouldBeWithoutPathsAfterUndo();
         wouldBecome();
+        wouldBecomeOfNoPath();
         skipsNeeded();
+        skipsNeededAtItsBounds();
         skipsNeededOfSome();
+        skipsNeededOfTheTooEarly();
         changesNothing();
         Check.finish();
     }
@@ -37,6 +48,20 @@ public final class WhatIfTest {
         Check.due("a great product", y.velocity(1, 9999999, 5000000), -100000);
     }
 
+    private static void velocityLimits() {
+        TransitMeter x = Check.withPaths(1);
+        int[][] due = {{100000, 111111, 99999}, {95000, 104980, 100000}, {1000, 9999999, 100000},
+            {111111, 100000, -99999}, {104980, 95000, -100000}, {9999999, 1000, -100000}};
+        for (int[] each : due) {
+            Check.due("velocity(0, " + each[0] + ", " + each[1] + ")", x.velocity(0, each[0], each[1]), each[2]);
+        }
+        TransitMeter longest = new TransitMeter();
+        longest.addPath(2000, 10, 1, 100, 0);
+        // 2e11 * 9998999 is far beyond int
+        Check.due("the longest, at most", longest.velocity(0, 1000, 9999999), 100000);
+        Check.due("the longest, at least", longest.velocity(0, 9999999, 1000), -100000);
+    }
+
     private static void velocityErrors() {
         TransitMeter x = new TransitMeter();
         Check.due("velocity(0, ..) without paths", x.velocity(0, 5000, 5000), Check.BAD_INDEX);
@@ -50,6 +75,21 @@ public final class WhatIfTest {
             Check.due("backward " + wrong, x.velocity(0, 5000, wrong), Check.BAD_VALUE);
         }
         Check.due("1000 above the delay", x.velocity(0, 1700, 1700), 0);
+    }
+
+    private static void velocityTimesAtTheirBounds() {
+        for (int delay : new int[] {0, 1, 5000}) {
+            TransitMeter x = new TransitMeter();
+            x.addPath(100, 50, 1, 1000, delay);
+            int least = 1000 + delay;
+            Check.due("forward, one too small", x.velocity(0, least - 1, 9000), Check.BAD_VALUE);
+            Check.due("backward, one too small", x.velocity(0, 9000, least - 1), Check.BAD_VALUE);
+            Check.due("both the least", x.velocity(0, least, least), 0);
+            Check.due("both the greatest", x.velocity(0, 9999999, 9999999), 0);
+            Check.due("forward, one too large", x.velocity(0, 10000000, 9000), Check.BAD_VALUE);
+            Check.due("backward, one too large", x.velocity(0, 9000, 10000000), Check.BAD_VALUE);
+        }
+        Check.due("of no path", new TransitMeter().velocity(0, 999, 999), Check.BAD_INDEX);
     }
 
     private static void ideal() {
@@ -81,6 +121,22 @@ public final class WhatIfTest {
         Check.due("9", x.ideal(2, 300, 9, false), 169999);
         Check.due("-5 is none", x.ideal(2, 300, -5, false), 170000);
         Check.due("5 is none, backward", x.ideal(2, 300, 5, true), 170000);
+    }
+
+    private static void idealAtItsBounds() {
+        TransitMeter x = new TransitMeter();
+        x.addPath(200, 200, 1, 1000, 5000);
+        // 2e11 / 300000, / 3000000, / 320000, / 280000, / 3020000, / 2980000
+        int[][] due = {{299, 0, Check.BAD_VALUE}, {300, 0, 671666}, {3000, 0, 71666}, {3001, 0, Check.BAD_VALUE},
+            {300, -20001, Check.BAD_VALUE}, {300, -20000, 719285}, {300, 20000, 630000}, {300, 20001, Check.BAD_VALUE},
+            {3000, -20000, 72114}, {3000, 20000, 71225}, {3000, 20001, Check.BAD_VALUE}};
+        for (int[] each : due) {
+            String what = "ideal(0, " + each[0] + ", " + each[1] + ", ";
+            Check.due(what + "false)", x.ideal(0, each[0], each[1], false), each[2]);
+            Check.due(what + "true), the flow turned", x.ideal(0, each[0], -each[1], true), each[2]);
+        }
+        Check.due("ideal(-1, 300, 0, true)", x.ideal(-1, 300, 0, true), Check.BAD_INDEX);
+        Check.due("ideal(1, 300, 0, true)", x.ideal(1, 300, 0, true), Check.BAD_INDEX);
     }
 
     private static void idealErrors() {
@@ -120,6 +176,42 @@ public final class WhatIfTest {
         Check.due("wouldBe() with a substituted one", x.wouldBe(), 1237);
     }
 
+    private static void wouldBeWithoutPaths() {
+        TransitMeter x = new TransitMeter();
+        Check.due("wouldBe()", x.wouldBe(), Check.NOT_POSSIBLE);
+        x.setPoint(0, 900);
+        Check.due("wouldBe() with a point", x.wouldBe(), Check.NOT_POSSIBLE);
+        x.addPath(100, 50, 1, 1000, 0);
+        Check.due("wouldBe() with a path", x.wouldBe(), Check.NONE);
+    }
+
+    /** One that is missing, one that is weak, and one that is an outlier. */
+    private static void wouldBeLost() {
+        TransitMeter x = Check.withReferences(1, 1, 1, 1);
+        Check.due("without shots", x.wouldBe(), Check.NONE);
+        x.shot(1, 100000, 101000, 39);
+        Check.due("with a weak one", x.wouldBe(), Check.NONE);
+        Check.aim(x, 2, 103000, 104000);
+        Check.aim(x, 3, 104000, 103000);
+        Check.due("with outliers", x.wouldBe(), Check.NONE);
+        Check.due("close()", x.close(), Check.NONE);
+        TransitMeter still = Check.withPaths(1);
+        Check.aim(still, 0, 5000, 5000);
+        Check.due("0 is not lost", still.wouldBe(), 0);
+    }
+
+    private static void wouldBeWithoutPathsAfterUndo() {
+        TransitMeter x = Check.withPaths(1);
+        Check.aim(x, 0, 100000, 101000);
+        Check.due("wouldBe()", x.wouldBe(), 9900);
+        x.undo();
+        Check.due("wouldBe() without the shot", x.wouldBe(), Check.NONE);
+        x.undo();
+        Check.due("wouldBe() without the path", x.wouldBe(), Check.NOT_POSSIBLE);
+        Check.due("wouldBecome(0)", x.wouldBecome(0), Check.BAD_INDEX);
+        Check.due("skipsNeeded()", x.skipsNeeded(), 0);
+    }
+
     private static void wouldBecome() {
         TransitMeter x = Check.withReferences(1, 1, 1, 10);
         Check.aim(x, 0, 101000, 100000);
@@ -141,6 +233,18 @@ public final class WhatIfTest {
         Check.due("wouldBecome(1) of one", Check.withPaths(1).wouldBecome(1), Check.BAD_INDEX);
     }
 
+    private static void wouldBecomeOfNoPath() {
+        for (int paths = 0; paths <= 4; paths++) {
+            int[] weights = new int[paths];
+            Arrays.fill(weights, 7);
+            TransitMeter x = Check.withPaths(weights);
+            for (int path = -1; path <= 5; path++) {
+                int due = path >= 0 && path < paths ? TransitMeter.MISSING : Check.BAD_INDEX;
+                Check.due("wouldBecome(" + path + ") of " + paths, x.wouldBecome(path), due);
+            }
+        }
+    }
+
     private static void skipsNeeded() {
         Check.due("without paths", new TransitMeter().skipsNeeded(), 0);
         Check.due("without shots", Check.withPaths(1).skipsNeeded(), 0);
@@ -154,6 +258,44 @@ public final class WhatIfTest {
                 Check.due("shift " + shift, x.skipsNeeded(), due);
             }
         }
+    }
+
+    /** The answer is from 0 to 5, whatever the most skips are now, and no most skips is enough for 6. */
+    private static void skipsNeededAtItsBounds() {
+        for (int most = 0; most <= 5; most++) {
+            TransitMeter x = Check.withReferences(1, 9);
+            x.set(1, most);
+            Check.aim(x, 1, 100000, 100000);
+            Check.due("without a shot of 0", x.skipsNeeded(), 0);
+            Check.aim(x, 0, 100000, 100000);
+            Check.due("without a shift", x.skipsNeeded(), 0);
+            Check.aim(x, 0, 105500, 100000);
+            Check.due("five and a half periods", x.skipsNeeded(), 5);
+            Check.aim(x, 0, 100000, 94500);
+            Check.due("minus five and a half periods", x.skipsNeeded(), 5);
+            Check.aim(x, 0, 105501, 100000);
+            Check.due("six periods", x.skipsNeeded(), Check.NONE);
+            Check.aim(x, 0, 100000, 94499);
+            Check.due("minus six periods", x.skipsNeeded(), Check.NONE);
+            Check.due("the setting stays", x.total(11), most);
+        }
+    }
+
+    /** One that is an outlier because its corrected time is too early is one with each most skips from its shift on. */
+    private static void skipsNeededOfTheTooEarly() {
+        TransitMeter x = new TransitMeter();
+        x.addPath(100, 50, 1, 1000, 0);
+        x.addPath(100, 50, 9, 1000, 0);
+        Check.aim(x, 0, 1400, 9000);
+        Check.aim(x, 1, 9000, 9000);
+        x.close();
+        Check.aim(x, 0, 3000, 9000);
+        Check.aim(x, 1, 9000, 9000);
+        // the shift 2 leaves 1000
+        Check.due("late enough", x.skipsNeeded(), 2);
+        Check.aim(x, 0, 2999, 9000);
+        Check.due("too early", x.skipsNeeded(), Check.NONE);
+        Check.due("an outlier", x.wouldBecome(0), TransitMeter.OUTLIER);
     }
 
     private static void skipsNeededOfSome() {
