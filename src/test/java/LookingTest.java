@@ -13,6 +13,7 @@ public final class LookingTest {
         toldAtItsBounds();
         sound();
         soundOfTheFewest();
+        soundRoundsTheProduct();
         factor();
         factorErrors();
         factorWithoutPoints();
@@ -220,6 +221,15 @@ public final class LookingTest {
         Check.due("sound(0) after forgetting", x.sound(0), Check.NONE);
         Check.due("sound(-1)", x.sound(-1), Check.BAD_INDEX);
         Check.due("sound(1)", x.sound(1), Check.BAD_INDEX);
+    }
+
+    private static void soundRoundsTheProduct() {
+        TransitMeter x = new TransitMeter();
+        x.addPath(50, 50, 1, 1000, 3);
+        Check.aim(x, 0, 1030, 1032);
+        x.close();
+        // net 1027 and 1029: the product / 1000 = 1056 (.783), and 50 * 500000 * 2056 / 1056 = 48674242.4
+        Check.due("sound(0)", x.sound(0), 48674242);
     }
 
     private static void factor() {

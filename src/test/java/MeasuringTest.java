@@ -17,6 +17,7 @@ public final class MeasuringTest {
         forget();
         forgetWithoutARatio();
         forgetAheadOfClosing();
+        forgetNothingElse();
         Check.finish();
     }
 
@@ -278,5 +279,27 @@ public final class MeasuringTest {
         Check.due("not substituted", x.round(0, 4), 0);
         Check.due("no velocity", x.path(0, 9), Check.NONE);
         Check.due("no reference", x.path(0, 5), Check.NONE);
+    }
+
+    /** How a path fared so far, its shot and what it is made of stay. */
+    private static void forgetNothingElse() {
+        TransitMeter x = Check.withReferences(5, 90);
+        for (int shift : new int[] {1, 2, 7, 8, 9}) {
+            Check.aim(x, 0, 100000 + shift * 1000, 100000);
+            Check.aim(x, 1, 100000, 100000);
+            x.close();
+        }
+        x.shot(0, 100000, 100100, 77);
+        int[] due = {100, 50, 5, 1000, 0, Check.NONE, Check.NONE, Check.NONE, TransitMeter.OUTLIER, Check.NONE, 3, 2, 3,
+            1};
+        Check.due("forget(0)", x.forget(0), 1);
+        for (int property = 0; property < due.length; property++) {
+            Check.due("forgotten: path(0, " + property + ")", x.path(0, property), due[property]);
+        }
+        Check.due("told(0, 0)", x.told(0, 0), 100000);
+        Check.due("told(0, 1)", x.told(0, 1), 100100);
+        Check.due("told(0, 2)", x.told(0, 2), 77);
+        Check.due("rounds", x.total(5), 6);
+        Check.due("one fails", x.total(7), 1);
     }
 }

@@ -20,12 +20,14 @@ public final class RoundEdgesTest {
         noneAcceptedNoneSubstituted();
         meanThatBecomesZero();
         oppositeFlows();
+        ratioOfACorrectedOne();
         ratioOfExactlyTheLimit();
         factorOfAMeanBeyondTheTable();
         factorsAtTheirBounds();
         volumesAddUp();
         undoneThirteenthRound();
         thirtyRounds();
+        goneAfterALostRound();
         failsByAnyKind();
         failsOnlyOneAfterTheOther();
         correctedIsAccepted();
@@ -332,6 +334,22 @@ public final class RoundEdgesTest {
         Check.due("it counts", x.statistic(0), 1);
     }
 
+    /** Each accepted path gets a ratio, a corrected one as well, in place of the one that it has. */
+    private static void ratioOfACorrectedOne() {
+        TransitMeter x = Check.withReferences(1, 9);
+        Check.aim(x, 0, 101000, 100100);
+        Check.aim(x, 1, 100000, 100100);
+        Check.due("close()", x.close(), 999);
+        Check.due("corrected", x.path(0, 8), TransitMeter.CORRECTED);
+        Check.due("its first ratio", x.path(0, 7), 1000);
+        Check.aim(x, 0, 101000, 100200);
+        Check.aim(x, 1, 100000, 100100);
+        // 1996 and 999: (1996 + 8991) / 10 = 1098, and 1996000 / 1098 = 1817.8
+        Check.due("close()", x.close(), 1098);
+        Check.due("its ratio then", x.path(0, 7), 1817);
+        Check.due("ratio of the other one", x.path(1, 7), 909);
+    }
+
     private static void ratioOfExactlyTheLimit() {
         int[] third = {2, 3};
         for (int weight : third) {
@@ -443,6 +461,20 @@ public final class RoundEdgesTest {
         Check.due("closed", x.total(3), 30);
         Check.due("kept", x.total(5), 12);
         Check.due("least of the kept", x.statistic(1), 19);
+    }
+
+    private static void goneAfterALostRound() {
+        TransitMeter x = Check.withReferences(1, 1, 1);
+        x.shot(0, 100000, 100000, 39);
+        Check.aim(x, 1, 110000, 100000);
+        Check.aim(x, 2, 120000, 100000);
+        Check.due("close()", x.close(), Check.NONE);
+        for (int path = 0; path < 3; path++) {
+            Check.due("no shot of " + path, x.told(path, 0), Check.NONE);
+            Check.due("missing then: " + path, x.wouldBecome(path), TransitMeter.MISSING);
+        }
+        Check.due("total(2)", x.total(2), 0);
+        Check.due("the first of the next round", x.shot(1, 5000, 5000, 50), 1);
     }
 
     private static void failsByAnyKind() {

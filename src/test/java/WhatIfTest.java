@@ -5,10 +5,12 @@ public final class WhatIfTest {
     public static void main(String[] args) {
         velocity();
         velocityLimits();
+        velocityRoundsEachQuotient();
         velocityErrors();
         velocityTimesAtTheirBounds();
         ideal();
         idealAtItsBounds();
+        idealOfTheLeastFlow();
         idealErrors();
         wouldBe();
         wouldBeWithoutPaths();
@@ -60,6 +62,18 @@ public final class WhatIfTest {
         // 2e11 * 9998999 is far beyond int
         Check.due("the longest, at most", longest.velocity(0, 1000, 9999999), 100000);
         Check.due("the longest, at least", longest.velocity(0, 9999999, 1000), -100000);
+    }
+
+    private static void velocityRoundsEachQuotient() {
+        TransitMeter x = new TransitMeter();
+        x.addPath(50, 50, 1, 1000, 0);
+        // 1027 * 1029 / 1000 = 1056 (.783), and 25000000 * 2 / 1056 = 47348.4
+        Check.due("the product is cut", x.velocity(0, 1027, 1029), 47348);
+        Check.due("the same backward", x.velocity(0, 1029, 1027), -47348);
+        x.addPath(53, 47, 1, 1000, 0);
+        // 53 * 53 * 500000 / 47 = 29882978 (.72), 1304 * 1309 / 1000 = 1706: 29882978 * 5 / 1706 = 87581.998
+        Check.due("the first quotient is cut", x.velocity(1, 1304, 1309), 87581);
+        Check.due("the same backward", x.velocity(1, 1309, 1304), -87581);
     }
 
     private static void velocityErrors() {
@@ -137,6 +151,19 @@ public final class WhatIfTest {
         }
         Check.due("ideal(-1, 300, 0, true)", x.ideal(-1, 300, 0, true), Check.BAD_INDEX);
         Check.due("ideal(1, 300, 0, true)", x.ideal(1, 300, 0, true), Check.BAD_INDEX);
+    }
+
+    /** A flow of 1 along 1999 of 2000 is 0, with either sign; where it is more, it is the same with either sign. */
+    private static void idealOfTheLeastFlow() {
+        TransitMeter x = new TransitMeter();
+        x.addPath(2000, 1999, 1, 1000, 0);
+        // 2e12 / 300000, and 2e12 / 300001 and / 299999 where 2 * 1999 / 2000 is 1
+        int[][] due = {{0, 6666666}, {1, 6666666}, {-1, 6666666}, {2, 6666644}, {-2, 6666688}, {3, 6666622},
+            {-3, 6666711}};
+        for (int[] each : due) {
+            Check.due("ideal(0, 300, " + each[0] + ", false)", x.ideal(0, 300, each[0], false), each[1]);
+            Check.due("ideal(0, 300, " + -each[0] + ", true)", x.ideal(0, 300, -each[0], true), each[1]);
+        }
     }
 
     private static void idealErrors() {
