@@ -774,11 +774,15 @@ public final class TransitMeter {
         }
 
         private boolean isMeasured(int index) {
-            return index < count && kept[index].velocity != NONE;
+            return index >= 0 && index < count && index < MAX_ROUNDS && kept[index].velocity != NONE;
         }
 
         int measuredCount() {
-            return countUpTo(Integer.MAX_VALUE);
+            int found = 0;
+            for (int i = 0; i < MAX_ROUNDS; i++) {
+                found += asNumber(isMeasured(i));
+            }
+            return found;
         }
 
         private int countUpTo(int velocity) {

@@ -9,6 +9,8 @@ import java.util.HashSet;
 import java.util.List;
 import java.util.Set;
 import java.util.TreeSet;
+import java.util.regex.Matcher;
+import java.util.regex.Pattern;
 
 /** The public face, and what of LANGUAGE.md can be seen from the source and the compiled class. */
 public final class FaceTest {
@@ -23,6 +25,7 @@ public final class FaceTest {
     private static final List<String> FIELDS = List.of("BAD_INDEX -2000000001", "BAD_VALUE -2000000002",
             "NOT_POSSIBLE -2000000003", "FULL -2000000004", "NONE -2000000005", "MISSING 0", "WEAK 1", "OUTLIER 2",
             "CORRECTED 3", "GOOD 4");
+    private static final List<String> LIBRARY = List.of("Math.abs(", "Math.min(", "Math.max(", "System.arraycopy(");
 
     public static void main(String[] args) throws Exception {
         Class<?> face = TransitMeter.class;
@@ -94,12 +97,29 @@ public final class FaceTest {
         }
     }
 
+    /** Rule 4 lists what may be used of the library; constants of its classes are not among it. */
+    private static void library(String code) {
+        Set<String> own = new HashSet<>(List.of("TransitMeter"));
+        Matcher classes = Pattern.compile("\\bclass (\\w+)").matcher(code);
+        while (classes.find()) {
+            own.add(classes.group(1));
+        }
+        Matcher names = Pattern.compile("(?<![\\w.])([A-Z]\\w*[a-z]\\w*)(\\s*\\.\\s*\\w+\\s*\\(?)?").matcher(code);
+        while (names.find()) {
+            String use = names.group(2) == null ? "" : names.group(2).replaceAll("\\s", "");
+            Check.holds("of the library only what is listed: " + names.group(1) + use,
+                    own.contains(names.group(1)) || LIBRARY.contains(names.group(1) + use));
+        }
+    }
+
     private static void source(String whole) {
         String code = whole.replaceAll("(?s)/\\*.*?\\*/", "").replaceAll("//[^\n]*", "");
+        Check.holds("signs 1 to 127 alone", whole.chars().allMatch(sign -> sign >= 1 && sign <= 127));
+        library(code);
         for (String word : List.of("throw", "throws", "try", "catch", "finally", "synchronized", "assert", "import",
                 "package", "var", "System\\.out", "equals", "hashCode", "toString", "Object", "Thread",
                 "while\\s*\\(true", "volatile", "transient", "native", "strictfp", "default\\s*->", "instanceof")) {
-            Check.holds("without " + word, !java.util.regex.Pattern.compile("\\b" + word + "\\b").matcher(code).find());
+            Check.holds("without " + word, !Pattern.compile("\\b" + word + "\\b").matcher(code).find());
         }
         Check.holds("without lambdas and method references", !code.contains("->") && !code.contains("::"));
         int inMethod = 0;
